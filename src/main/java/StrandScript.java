@@ -230,7 +230,6 @@ public final class StrandScript {
     private static final int S_CALL = 48;
     private static final int S_TOSTRING = 49;
     private static final int S_ADD = 50;
-    private static final int S_CONCAT = 55;
     private static final int S_LT = 56;
     private static final int S_LE = 57;
     private static final int S_EQ = 58;
@@ -384,7 +383,7 @@ public final class StrandScript {
         }
     }
 
-    /** The text and its tokens. */
+    /** The text and its tokens, which are found all at once, up to the first wrong one. */
     static final class Scanner {
         private static final String WORDS = "and|break|do|else|elseif|end|false|for|function|if|in|local|nil|not|or|repeat|return|then|true|until|while|";
         private static final String SINGLE_SIGNS = "+-*%#(){}[];:,";
@@ -395,12 +394,12 @@ public final class StrandScript {
         private int length;
         private int end;
         private int at;
-        private boolean stopped;
-        // The token at hand: its kind, its first byte, its string or number.
-        private int kind;
         private int start;
-        private int string;
-        private long number;
+        // For each token its kind, its first byte, and its string or number.
+        private final byte[] kinds = new byte[MOST_TEXT + 1];
+        private final int[] starts = new int[MOST_TEXT + 1];
+        private final long[] numbers = new long[MOST_TEXT + 1];
+        private int token;
 
         Scanner(Strings strings) {
             this.strings = strings;
@@ -420,40 +419,67 @@ public final class StrandScript {
         void begin(int bytes) {
             end = Math.min(Math.max(bytes, 0), MOST_TEXT);
             at = 0;
-            stopped = false;
-            advance();
+            token = 0;
+            int kind = T_BAD;
+            for (int i = 0; i <= MOST_TEXT && kind != T_END; i++) {
+                at = afterBlanks(at);
+                start = at;
+                kind = at < end ? scanToken(i) : T_END;
+                kinds[i] = (byte) kind;
+                starts[i] = start;
+                // What stands behind a wrong token is never asked for.
+                end = kind == T_BAD ? at : end;
+            }
+        }
+
+        private int scanToken(int index) {
+            int first = byteAt(at);
+            numbers[index] = 0;
+            if (isLetter(first)) {
+                return scanName(index);
+            }
+            if (first == '0' && byteAt(at + 1) == 'x') {
+                return scanHex(index);
+            }
+            if (isDigit(first)) {
+                return scanDigits(index);
+            }
+            if (first == '"' || first == '\'') {
+                return scanString(index, first);
+            }
+            return scanSign(first);
         }
 
         /** After a fault there are no more tokens, so that all that reads comes to its end. */
         void stop() {
-            stopped = true;
-            kind = T_END;
+            kinds[token] = T_END;
         }
 
         void advance() {
-            if (stopped) {
-                return;
+            if (kinds[token] != T_END && token < MOST_TEXT) {
+                token++;
             }
-            at = afterBlanks(at);
-            start = at;
-            int first = byteAt(at);
-            if (at >= end) {
-                kind = T_END;
-            } else if (isLetter(first)) {
-                scanName();
-            } else if (isDigit(first)) {
-                scanNumber();
-            } else if (first == '"' || first == '\'') {
-                scanString(first);
-            } else {
-                scanSign(first);
-            }
+        }
+
+        int kind() {
+            return kinds[token];
+        }
+
+        int where() {
+            return starts[token];
+        }
+
+        long number() {
+            return numbers[token];
+        }
+
+        int string() {
+            return (int) numbers[token];
         }
 
         /** Whether a single '=' stands behind the token at hand. */
         boolean setFollows() {
-            int next = afterBlanks(at);
-            return byteAt(next) == '=' && byteAt(next + 1) != '=';
+            return token < MOST_TEXT && kinds[token] != T_END && kinds[token + 1] == T_SET;
         }
 
         private int byteAt(int index) {
@@ -498,7 +524,7 @@ public final class StrandScript {
         }
 
         private static int hexDigit(int c) {
-            if (isDigit(c)) {
+            if (c >= '0' && c <= '9') {
                 return c - '0';
             }
             if (c >= 'a' && c <= 'f') {
@@ -507,20 +533,20 @@ public final class StrandScript {
             return c >= 'A' && c <= 'F' ? c - 'A' + 10 : -1;
         }
 
-        private void scanName() {
+        private int scanName(int index) {
             strings.clear();
             while (at < end && (isLetter(byteAt(at)) || isDigit(byteAt(at)))) {
                 strings.append(byteAt(at));
                 at++;
             }
             if (at - start > MOST_NAME) {
-                kind = T_BAD;
-                return;
+                return T_BAD;
             }
-            kind = wordToken();
+            int kind = wordToken();
             if (kind == T_NAME) {
-                string = strings.add();
+                numbers[index] = strings.add();
             }
+            return kind;
         }
 
         private int wordToken() {
@@ -546,55 +572,46 @@ public final class StrandScript {
             return same;
         }
 
-        private void scanNumber() {
-            kind = T_NUMBER;
-            number = 0;
-            if (byteAt(at) == '0' && byteAt(at + 1) == 'x') {
-                scanHex();
-            } else {
-                scanDigits();
-            }
-            if (isLetter(byteAt(at)) || isDigit(byteAt(at))) {
-                kind = T_BAD;
-            }
-        }
-
-        private void scanHex() {
+        private int scanHex(int index) {
             at += 2;
             int digits = 0;
             while (digits < 16 && hexDigit(byteAt(at)) >= 0) {
-                number = number << 4 | hexDigit(byteAt(at));
+                numbers[index] = numbers[index] << 4 | hexDigit(byteAt(at));
                 at++;
                 digits++;
             }
-            if (digits == 0) {
-                kind = T_BAD;
-            }
+            return digits > 0 && endsNumber() ? T_NUMBER : T_BAD;
         }
 
-        private void scanDigits() {
+        private int scanDigits(int index) {
+            boolean fits = true;
+            long number = 0;
             while (at < end && isDigit(byteAt(at))) {
                 int digit = byteAt(at) - '0';
-                if (number > (Long.MAX_VALUE - digit) / 10) {
-                    kind = T_BAD;
-                } else {
-                    number = number * 10 + digit;
-                }
+                fits = fits && number <= (Long.MAX_VALUE - digit) / 10;
+                number = number * 10 + digit;
                 at++;
             }
+            numbers[index] = number;
+            return fits && endsNumber() ? T_NUMBER : T_BAD;
         }
 
-        private void scanString(int quote) {
+        private boolean endsNumber() {
+            return !isLetter(byteAt(at)) && !isDigit(byteAt(at));
+        }
+
+        private int scanString(int index, int quote) {
             strings.clear();
             at++;
-            kind = T_BAD;
             boolean sound = true;
-            while (at < end && sound && kind == T_BAD) {
+            while (at < end && sound) {
                 int c = byteAt(at);
                 at++;
                 if (c == quote) {
-                    kind = T_STRING;
-                } else if (c == '\\') {
+                    numbers[index] = strings.add();
+                    return T_STRING;
+                }
+                if (c == '\\') {
                     sound = scanEscape();
                 } else {
                     sound = isText(c) && c != 10 && c != 13;
@@ -602,9 +619,7 @@ public final class StrandScript {
                 }
                 sound = sound && strings.size <= MOST_LITERAL;
             }
-            if (kind == T_STRING) {
-                string = strings.add();
-            }
+            return T_BAD;
         }
 
         private boolean scanEscape() {
@@ -629,26 +644,28 @@ public final class StrandScript {
             return c == 'n' || c == 't' || c == '\\' || c == '"' || c == '\'';
         }
 
-        private void scanSign(int first) {
+        private int scanSign(int first) {
             boolean doubled = byteAt(at + 1) == first;
             boolean set = byteAt(at + 1) == '=';
-            at++;
             int single = SINGLE_SIGNS.indexOf((char) first);
+            at++;
             if (single >= 0 && single < SINGLE_TOKENS.length) {
-                kind = SINGLE_TOKENS[single];
-            } else if (first == '.') {
-                boolean tripled = doubled && byteAt(at + 1) == first;
-                kind = tripled ? T_DOTS : doubled ? T_JOIN : T_DOT;
-                at += tripled ? 2 : doubled ? 1 : 0;
-            } else if (first == '/' && doubled) {
-                kind = T_SLASHES;
-                at++;
-            } else if (first == '=' || first == '<' || first == '>' || first == '~' && set) {
-                kind = comparison(first, set);
-                at += set ? 1 : 0;
-            } else {
-                kind = T_BAD;
+                return SINGLE_TOKENS[single];
             }
+            if (first == '.') {
+                boolean tripled = doubled && byteAt(at + 1) == first;
+                at += tripled ? 2 : doubled ? 1 : 0;
+                return tripled ? T_DOTS : doubled ? T_JOIN : T_DOT;
+            }
+            if (first == '/' && doubled) {
+                at++;
+                return T_SLASHES;
+            }
+            if (first == '=' || first == '<' || first == '>' || first == '~' && set) {
+                at += set ? 1 : 0;
+                return comparison(first, set);
+            }
+            return T_BAD;
         }
 
         private static int comparison(int first, boolean set) {
@@ -1849,7 +1866,8 @@ public final class StrandScript {
         /** The place of what a value's meta table has for a name, or -1. */
         int metaPlace(int tag, long value, int name) {
             int meta = tag == TABLE ? ones[(int) value] : -1;
-            return meta >= 0 ? rows.findValue(meta, STRING, name) : -1;
+            int place = meta >= 0 ? rows.find(meta, STRING, name) : -1;
+            return place >= 0 && rows.valueTags[place] != NIL ? place : -1;
         }
 
         /** Strands that run or wait lose their calls, and nothing is held any more: the run is over. */
@@ -2137,7 +2155,7 @@ public final class StrandScript {
             scanner.begin(n);
             int body = program.addBody();
             readBlock();
-            if (scanner.kind != T_END) {
+            if (scanner.kind() != T_END) {
                 fail(SYNTAX);
             }
             endBody(body, 0);
@@ -2147,13 +2165,13 @@ public final class StrandScript {
         private void fail(int what) {
             if (fault == 0) {
                 fault = what;
-                place = scanner.start;
+                place = scanner.where();
                 scanner.stop();
             }
         }
 
         private void expect(int kind) {
-            if (scanner.kind == kind) {
+            if (scanner.kind() == kind) {
                 scanner.advance();
             } else {
                 fail(SYNTAX);
@@ -2205,7 +2223,7 @@ public final class StrandScript {
         }
 
         private boolean blockEnds() {
-            switch (scanner.kind) {
+            switch (scanner.kind()) {
                 case T_END:
                 case T_ENDS:
                 case T_ELSE:
@@ -2220,7 +2238,7 @@ public final class StrandScript {
         private void readBlock() {
             boolean open = true;
             for (int i = 0; i <= MOST_TEXT && open && !blockEnds(); i++) {
-                if (scanner.kind == T_RETURN) {
+                if (scanner.kind() == T_RETURN) {
                     readReturn();
                     open = false;
                 } else {
@@ -2247,25 +2265,25 @@ public final class StrandScript {
             }
             program.emit(OP_RETURN, start, 0);
             scopes.setDepth(start);
-            if (scanner.kind == T_SEMICOLON) {
+            if (scanner.kind() == T_SEMICOLON) {
                 scanner.advance();
             }
         }
 
         private void readStatement() {
-            if (scanner.kind == T_SEMICOLON) {
+            if (scanner.kind() == T_SEMICOLON) {
                 scanner.advance();
                 return;
             }
             program.emit(OP_FUEL, 0, 0);
-            switch (scanner.kind) {
+            switch (scanner.kind()) {
                 case T_DO:
                 case T_WHILE:
                 case T_REPEAT:
                 case T_IF:
                 case T_FOR:
                     if (nest()) {
-                        readNested(scanner.kind);
+                        readNested(scanner.kind());
                         nesting--;
                     }
                     break;
@@ -2323,13 +2341,13 @@ public final class StrandScript {
                 scanner.advance();
                 int skip = readTest(T_THEN);
                 readScope();
-                more = scanner.kind == T_ELSEIF;
-                if (more || scanner.kind == T_ELSE) {
+                more = scanner.kind() == T_ELSEIF;
+                if (more || scanner.kind() == T_ELSE) {
                     exits = program.emit(OP_JUMP, exits, 0);
                 }
                 program.setFirst(skip, program.size);
             }
-            if (scanner.kind == T_ELSE) {
+            if (scanner.kind() == T_ELSE) {
                 scanner.advance();
                 readScope();
             }
@@ -2385,7 +2403,7 @@ public final class StrandScript {
             scopes.show(depth);
             scanner.advance();
             readName(0);
-            if (scanner.kind == T_SET) {
+            if (scanner.kind() == T_SET) {
                 readForNumbers(depth);
             } else {
                 readForIn(depth);
@@ -2400,7 +2418,7 @@ public final class StrandScript {
             expect(T_COMMA);
             readExp(0);
             settle();
-            if (scanner.kind == T_COMMA) {
+            if (scanner.kind() == T_COMMA) {
                 scanner.advance();
                 readExp(0);
                 settle();
@@ -2420,7 +2438,7 @@ public final class StrandScript {
 
         private void readForIn(int depth) {
             int count = 1;
-            for (int i = 0; i <= MOST_TEXT && scanner.kind == T_COMMA; i++) {
+            for (int i = 0; i <= MOST_TEXT && scanner.kind() == T_COMMA; i++) {
                 scanner.advance();
                 readName(count);
                 count++;
@@ -2451,9 +2469,9 @@ public final class StrandScript {
 
         /** A name that is declared, behind so many others of its list. */
         private void readName(int others) {
-            if (scanner.kind != T_NAME) {
+            if (scanner.kind() != T_NAME) {
                 fail(SYNTAX);
-            } else if (others >= MOST_LISTED || !scopes.declare(scanner.string)) {
+            } else if (others >= MOST_LISTED || !scopes.declare(scanner.string())) {
                 fail(LIMIT);
             } else {
                 scanner.advance();
@@ -2462,21 +2480,21 @@ public final class StrandScript {
 
         private void readLocal() {
             scanner.advance();
-            if (scanner.kind == T_FUNCTION) {
+            if (scanner.kind() == T_FUNCTION) {
                 readLocalFunction();
                 return;
             }
             int start = scopes.depth();
             readName(0);
             int count = 1;
-            for (int i = 0; i <= MOST_TEXT && scanner.kind == T_COMMA; i++) {
+            for (int i = 0; i <= MOST_TEXT && scanner.kind() == T_COMMA; i++) {
                 scanner.advance();
                 readName(count);
                 count++;
             }
             int given = 0;
             form = DONE;
-            if (scanner.kind == T_SET) {
+            if (scanner.kind() == T_SET) {
                 scanner.advance();
                 given = readExps();
             }
@@ -2507,9 +2525,9 @@ public final class StrandScript {
             boolean method = false;
             scanner.advance();
             readVariable();
-            for (int i = 0; i <= MOST_TEXT && !method && (scanner.kind == T_DOT || scanner.kind == T_COLON); i++) {
+            for (int i = 0; i <= MOST_TEXT && !method && (scanner.kind() == T_DOT || scanner.kind() == T_COLON); i++) {
                 settle();
-                method = scanner.kind == T_COLON;
+                method = scanner.kind() == T_COLON;
                 scanner.advance();
                 readMemberName();
             }
@@ -2540,9 +2558,9 @@ public final class StrandScript {
 
         /** A name that stands for a variable or a global key. */
         private void readVariable() {
-            if (scanner.kind != T_NAME) {
+            if (scanner.kind() != T_NAME) {
                 fail(SYNTAX);
-            } else if (!scopes.find(scanner.string)) {
+            } else if (!scopes.find(scanner.string())) {
                 fail(LIMIT);
             } else {
                 form = scopes.foundAs;
@@ -2552,11 +2570,11 @@ public final class StrandScript {
         }
 
         private void readMemberName() {
-            if (scanner.kind != T_NAME) {
+            if (scanner.kind() != T_NAME) {
                 fail(SYNTAX);
                 return;
             }
-            push(OP_STRING, scanner.string, 0);
+            push(OP_STRING, scanner.string(), 0);
             form = MEMBER;
             scanner.advance();
         }
@@ -2593,7 +2611,7 @@ public final class StrandScript {
         }
 
         private void readParameters() {
-            if (scanner.kind != T_OPEN) {
+            if (scanner.kind() != T_OPEN) {
                 fail(SYNTAX);
                 return;
             }
@@ -2601,15 +2619,15 @@ public final class StrandScript {
                 return;
             }
             scanner.advance();
-            boolean more = scanner.kind != T_CLOSE;
+            boolean more = scanner.kind() != T_CLOSE;
             for (int i = 0; i <= MOST_TEXT && more; i++) {
-                if (scanner.kind == T_DOTS) {
+                if (scanner.kind() == T_DOTS) {
                     scopes.extras[scopes.level] = true;
                     scanner.advance();
                     more = false;
                 } else {
                     readName(i);
-                    more = scanner.kind == T_COMMA;
+                    more = scanner.kind() == T_COMMA;
                     if (more) {
                         scanner.advance();
                     }
@@ -2644,9 +2662,9 @@ public final class StrandScript {
             }
             int first = targetTop;
             addTarget();
-            for (int i = 1; i <= MOST_TEXT && scanner.kind == T_COMMA; i++) {
+            for (int i = 1; i <= MOST_TEXT && scanner.kind() == T_COMMA; i++) {
                 scanner.advance();
-                if (i >= MOST_LISTED && (scanner.kind == T_NAME || scanner.kind == T_OPEN)) {
+                if (i >= MOST_LISTED && (scanner.kind() == T_NAME || scanner.kind() == T_OPEN)) {
                     fail(LIMIT);
                 }
                 readPrefix();
@@ -2677,7 +2695,7 @@ public final class StrandScript {
         }
 
         private boolean beginsExp() {
-            switch (scanner.kind) {
+            switch (scanner.kind()) {
                 case T_NIL:
                 case T_FALSE:
                 case T_TRUE:
@@ -2701,11 +2719,11 @@ public final class StrandScript {
         private int readExps() {
             readExp(0);
             int count = 1;
-            for (int i = 0; i <= MOST_TEXT && scanner.kind == T_COMMA; i++) {
+            for (int i = 0; i <= MOST_TEXT && scanner.kind() == T_COMMA; i++) {
                 settle();
                 scanner.advance();
                 if (count >= MOST_LISTED && beginsExp()) {
-                    fail(scanner.kind == T_DOTS && !scopes.extras[scopes.level] ? RULE : LIMIT);
+                    fail(scanner.kind() == T_DOTS && !scopes.extras[scopes.level] ? RULE : LIMIT);
                 }
                 readExp(0);
                 count++;
@@ -2781,18 +2799,18 @@ public final class StrandScript {
 
         /** An exp whose binary signs are all stronger than this. */
         private void readExp(int weakest) {
-            if (scanner.kind == T_NOT || scanner.kind == T_LENGTH || scanner.kind == T_MINUS) {
+            if (scanner.kind() == T_NOT || scanner.kind() == T_LENGTH || scanner.kind() == T_MINUS) {
                 readUnary();
             } else {
                 readSimple();
             }
-            for (int i = 0; i <= MOST_TEXT && strength(scanner.kind) > weakest; i++) {
+            for (int i = 0; i <= MOST_TEXT && strength(scanner.kind()) > weakest; i++) {
                 readRightSide();
             }
         }
 
         private void readUnary() {
-            int operation = scanner.kind == T_NOT ? OP_NOT : scanner.kind == T_LENGTH ? OP_LENGTH : OP_NEGATE;
+            int operation = scanner.kind() == T_NOT ? OP_NOT : scanner.kind() == T_LENGTH ? OP_LENGTH : OP_NEGATE;
             if (!nest()) {
                 return;
             }
@@ -2804,7 +2822,7 @@ public final class StrandScript {
         }
 
         private void readRightSide() {
-            int sign = scanner.kind;
+            int sign = scanner.kind();
             int strength = strength(sign);
             settle();
             if (!nest()) {
@@ -2827,7 +2845,7 @@ public final class StrandScript {
         }
 
         private void readSimple() {
-            switch (scanner.kind) {
+            switch (scanner.kind()) {
                 case T_NIL:
                     readPlain(OP_PLAIN, NIL, 0);
                     break;
@@ -2838,10 +2856,10 @@ public final class StrandScript {
                     readPlain(OP_PLAIN, TRUE, 0);
                     break;
                 case T_NUMBER:
-                    readPlain(OP_NUMBER, (int) (scanner.number >> 32), (int) scanner.number);
+                    readPlain(OP_NUMBER, (int) (scanner.number() >> 32), (int) scanner.number());
                     break;
                 case T_STRING:
-                    readPlain(OP_STRING, scanner.string, 0);
+                    readPlain(OP_STRING, scanner.string(), 0);
                     break;
                 case T_DOTS:
                     readExtra();
@@ -2879,14 +2897,14 @@ public final class StrandScript {
         }
 
         private void readPrefix() {
-            if (scanner.kind == T_OPEN) {
+            if (scanner.kind() == T_OPEN) {
                 readBracket(T_CLOSE);
             } else {
                 readVariable();
             }
             boolean more = true;
             for (int i = 0; i <= MOST_TEXT && more; i++) {
-                switch (scanner.kind) {
+                switch (scanner.kind()) {
                     case T_DOT:
                         settle();
                         scanner.advance();
@@ -2929,26 +2947,26 @@ public final class StrandScript {
         private void readMethod() {
             int slot = scopes.depth() - 1;
             scanner.advance();
-            if (scanner.kind != T_NAME) {
+            if (scanner.kind() != T_NAME) {
                 fail(SYNTAX);
                 return;
             }
-            push(OP_METHOD, scanner.string, 0);
+            push(OP_METHOD, scanner.string(), 0);
             program.emit(OP_SWAP, 0, 0);
             scanner.advance();
             readArguments(OP_CALL_METHOD, slot);
         }
 
         private void readArguments(int operation, int slot) {
-            if (scanner.kind == T_STRING) {
-                readPlain(OP_STRING, scanner.string, 0);
-            } else if (scanner.kind == T_BRACE) {
+            if (scanner.kind() == T_STRING) {
+                readPlain(OP_STRING, scanner.string(), 0);
+            } else if (scanner.kind() == T_BRACE) {
                 readTable();
-            } else if (scanner.kind != T_OPEN) {
+            } else if (scanner.kind() != T_OPEN) {
                 fail(SYNTAX);
             } else if (nest()) {
                 scanner.advance();
-                if (scanner.kind != T_CLOSE) {
+                if (scanner.kind() != T_CLOSE) {
                     readExps();
                     settleAll();
                 }
@@ -2968,13 +2986,13 @@ public final class StrandScript {
             int index = 1;
             push(OP_TABLE, 0, 0);
             scanner.advance();
-            boolean more = scanner.kind != T_UNBRACE;
+            boolean more = scanner.kind() != T_UNBRACE;
             for (int i = 0; i <= MOST_TEXT && more; i++) {
                 boolean listed = readField(slot);
-                more = scanner.kind == T_COMMA || scanner.kind == T_SEMICOLON;
+                more = scanner.kind() == T_COMMA || scanner.kind() == T_SEMICOLON;
                 if (more) {
                     scanner.advance();
-                    more = scanner.kind != T_UNBRACE;
+                    more = scanner.kind() != T_UNBRACE;
                 }
                 if (listed) {
                     emitPut(slot, index, !more);
@@ -2999,12 +3017,12 @@ public final class StrandScript {
 
         /** A field: whether it is one without a name, which is not yet settled then. */
         private boolean readField(int slot) {
-            boolean bracket = scanner.kind == T_BRACKET;
+            boolean bracket = scanner.kind() == T_BRACKET;
             if (bracket) {
                 readBracket(T_UNBRACKET);
                 expect(T_SET);
-            } else if (scanner.kind == T_NAME && scanner.setFollows()) {
-                push(OP_STRING, scanner.string, 0);
+            } else if (scanner.kind() == T_NAME && scanner.setFollows()) {
+                push(OP_STRING, scanner.string(), 0);
                 scanner.advance();
                 scanner.advance();
             } else {
@@ -3979,50 +3997,53 @@ public final class StrandScript {
         }
 
         private void sign(int operation) {
-            int slot = stack.top - 2;
+            int slot = operation == OP_NOT || operation == OP_LENGTH || operation == OP_NEGATE ? stack.top - 1 : stack.top - 2;
+            boolean done = true;
             switch (operation) {
                 case OP_JOIN:
-                    join(slot);
+                    done = join(slot);
                     break;
                 case OP_LESS:
                 case OP_AT_MOST:
-                    compare(slot, operation == OP_LESS);
+                    done = compare(slot, operation == OP_LESS);
                     break;
                 case OP_MORE:
                 case OP_AT_LEAST:
                     swap(slot);
-                    compare(slot, operation == OP_MORE);
+                    done = compare(slot, operation == OP_MORE);
                     break;
                 case OP_LIKE:
                 case OP_UNLIKE:
-                    compareLike(slot, operation == OP_LIKE);
+                    done = compareLike(slot, operation == OP_LIKE);
                     break;
                 case OP_NOT:
-                    stack.set(stack.top - 1, stack.tagAt(stack.top - 1) > FALSE ? FALSE : TRUE, 0);
+                    stack.set(slot, stack.tagAt(slot) > FALSE ? FALSE : TRUE, 0);
                     break;
                 case OP_LENGTH:
-                    measure(stack.top - 1);
+                    done = measure(slot);
                     break;
                 case OP_NEGATE:
-                    negate(stack.top - 1);
+                    done = negate(slot);
                     break;
                 default:
-                    calculate(slot, operation);
+                    done = calculate(slot, operation);
                     break;
+            }
+            if (!done) {
+                askMeta(slot, operation);
             }
         }
 
-        /** The signs of two numbers. */
-        private void calculate(int slot, int operation) {
+        /** The signs of two numbers; false, here and below, if a meta table must answer. */
+        private boolean calculate(int slot, int operation) {
             if (stack.tagAt(slot) != NUMBER || stack.tagAt(slot + 1) != NUMBER) {
-                askMeta(slot, S_ADD + operation - OP_ADD, 1, S_NO_NUMBER);
-                return;
+                return false;
             }
             long left = stack.valueAt(slot);
             long right = stack.valueAt(slot + 1);
             if (right == 0 && (operation == OP_DIVIDE || operation == OP_MODULO)) {
                 calls.fail(S_ZERO_DIVISION);
-                return;
+                return true;
             }
             stack.top = slot + 1;
             switch (operation) {
@@ -4042,14 +4063,14 @@ public final class StrandScript {
                     stack.set(slot, NUMBER, Math.floorMod(left, right));
                     break;
             }
+            return true;
         }
 
-        private void join(int slot) {
+        private boolean join(int slot) {
             int left = stack.tagAt(slot);
             int right = stack.tagAt(slot + 1);
             if (left != STRING && left != NUMBER || right != STRING && right != NUMBER) {
-                askMeta(slot, S_CONCAT, 1, S_NO_STRING);
-                return;
+                return false;
             }
             strings.clear();
             strings.appendValue(left, stack.valueAt(slot));
@@ -4057,13 +4078,13 @@ public final class StrandScript {
             calls.result = slot;
             calls.want = 1;
             calls.giveString();
+            return true;
         }
 
-        private void compare(int slot, boolean less) {
+        private boolean compare(int slot, boolean less) {
             int tag = stack.tagAt(slot);
             if (tag != stack.tagAt(slot + 1) || tag != NUMBER && tag != STRING) {
-                askMeta(slot, less ? S_LT : S_LE, WANT_TRUE, S_NO_ORDER);
-                return;
+                return false;
             }
             long left = stack.valueAt(slot);
             long right = stack.valueAt(slot + 1);
@@ -4075,17 +4096,43 @@ public final class StrandScript {
             }
             stack.set(slot, so ? TRUE : FALSE, 0);
             stack.top = slot + 1;
+            return true;
         }
 
-        private void compareLike(int slot, boolean like) {
+        private boolean compareLike(int slot, boolean like) {
             int tag = stack.tagAt(slot);
             boolean same = tag == stack.tagAt(slot + 1) && stack.valueAt(slot) == stack.valueAt(slot + 1);
             if (!same && tag == TABLE && stack.tagAt(slot + 1) == TABLE && metaOfEither(slot, S_EQ) >= 0) {
-                askMeta(slot, S_EQ, like ? WANT_TRUE : WANT_FALSE, 0);
-            } else {
-                stack.set(slot, same == like ? TRUE : FALSE, 0);
-                stack.top = slot + 1;
+                return false;
             }
+            stack.set(slot, same == like ? TRUE : FALSE, 0);
+            stack.top = slot + 1;
+            return true;
+        }
+
+        private boolean measure(int slot) {
+            int tag = stack.tagAt(slot);
+            int object = (int) stack.valueAt(slot);
+            if (tag == STRING) {
+                stack.set(slot, NUMBER, strings.lengths[object]);
+                return true;
+            }
+            if (tag == TABLE && heap.metaPlace(tag, object, S_LEN) < 0) {
+                stack.set(slot, NUMBER, rows.length(object));
+                return true;
+            }
+            // A unary sign's operand is both of the two that are called with.
+            stack.push(tag, object);
+            return false;
+        }
+
+        private boolean negate(int slot) {
+            if (stack.tagAt(slot) == NUMBER) {
+                stack.set(slot, NUMBER, -stack.valueAt(slot));
+                return true;
+            }
+            stack.push(stack.tagAt(slot), stack.valueAt(slot));
+            return false;
         }
 
         private int metaOfEither(int slot, int name) {
@@ -4094,42 +4141,54 @@ public final class StrandScript {
         }
 
         /** What a meta table has for a sign is called with both operands, which stand at a slot. */
-        private void askMeta(int slot, int name, int wanted, int error) {
-            int place = metaOfEither(slot, name);
+        private void askMeta(int slot, int operation) {
+            int place = metaOfEither(slot, metaName(operation));
             if (place < 0) {
-                calls.fail(error);
+                calls.fail(complaint(operation));
                 return;
             }
             stack.copy(slot, slot + 1, 2);
             stack.top = slot + 3;
             stack.set(slot, rows.tagAt(place), rows.valueAt(place));
-            calls.call(slot, slot, wanted);
+            boolean compared = operation >= OP_LESS && operation <= OP_UNLIKE;
+            calls.call(slot, slot, operation == OP_UNLIKE ? WANT_FALSE : compared ? WANT_TRUE : 1);
         }
 
-        private void measure(int slot) {
-            int tag = stack.tagAt(slot);
-            int object = (int) stack.valueAt(slot);
-            if (tag == STRING) {
-                stack.set(slot, NUMBER, strings.lengths[object]);
-            } else if (tag == TABLE && heap.metaPlace(tag, object, S_LEN) < 0) {
-                stack.set(slot, NUMBER, rows.length(object));
-            } else {
-                askTwice(slot, S_LEN, S_NO_LENGTH);
+        private static int metaName(int operation) {
+            switch (operation) {
+                case OP_LESS:
+                case OP_MORE:
+                    return S_LT;
+                case OP_AT_MOST:
+                case OP_AT_LEAST:
+                    return S_LE;
+                case OP_LIKE:
+                case OP_UNLIKE:
+                    return S_EQ;
+                case OP_LENGTH:
+                    return S_LEN;
+                case OP_NEGATE:
+                    return S_UNM;
+                default:
+                    return S_ADD + operation - OP_ADD;
             }
         }
 
-        private void negate(int slot) {
-            if (stack.tagAt(slot) == NUMBER) {
-                stack.set(slot, NUMBER, -stack.valueAt(slot));
-            } else {
-                askTwice(slot, S_UNM, S_NO_NUMBER);
+        /** The error of a sign that no meta table answers for. */
+        private static int complaint(int operation) {
+            switch (operation) {
+                case OP_JOIN:
+                    return S_NO_STRING;
+                case OP_LESS:
+                case OP_AT_MOST:
+                case OP_MORE:
+                case OP_AT_LEAST:
+                    return S_NO_ORDER;
+                case OP_LENGTH:
+                    return S_NO_LENGTH;
+                default:
+                    return S_NO_NUMBER;
             }
-        }
-
-        /** A unary sign's operand is both of the two that are called with. */
-        private void askTwice(int slot, int name, int error) {
-            stack.push(stack.tagAt(slot), stack.valueAt(slot));
-            askMeta(slot, name, 1, error);
         }
     }
 
