@@ -716,12 +716,25 @@ public final class StrandScript {
             marks = new int[most];
         }
 
+        /** Only the built-in strings are there; they are put together once, and then stay at the front. */
         void begin() {
             Arrays.fill(buckets, -1);
-            top = 0;
             free = -1;
-            bytesEnd = 0;
             fixed = 0;
+            if (top == 0) {
+                addBuiltIns();
+                return;
+            }
+            top = BUILT_IN_STRING_COUNT;
+            bytesEnd = 0;
+            for (int string = 0; string < top; string++) {
+                bytesEnd += lengths[string];
+                nexts[string] = buckets[bucketOf(hashes[string])];
+                buckets[bucketOf(hashes[string])] = string;
+            }
+        }
+
+        private void addBuiltIns() {
             clear();
             for (int i = 0; i < BUILT_IN_STRINGS.length(); i++) {
                 if (BUILT_IN_STRINGS.charAt(i) == '|') {
