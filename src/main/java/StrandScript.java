@@ -751,10 +751,6 @@ public final class StrandScript {
             fixed = top;
         }
 
-        boolean isFixed(int string) {
-            return string < fixed;
-        }
-
         void clear() {
             size = 0;
         }
@@ -932,10 +928,6 @@ public final class StrandScript {
             bytesEnd = end;
         }
 
-        int cellsOf(int string) {
-            return isFixed(string) ? 0 : cellsFor(lengths[string]);
-        }
-
         int cellsFor(int length) {
             return STRING_CELLS + (length + 7) / 8;
         }
@@ -952,6 +944,7 @@ public final class StrandScript {
             }
         }
 
+        /** Finds the bucket by itself, as it is called from deep below. */
         private void unlink(int string) {
             int bucket = (hashes[string] ^ hashes[string] >>> 10) & buckets.length - 1;
             int other = buckets[bucket];
@@ -1181,8 +1174,9 @@ public final class StrandScript {
         // Far above what frames can need whose cells fit into a heap.
         private static final int MOST_SLOTS = 1000000;
         private static final int MOST_FRAMES = 20000;
-        // What instructions and built-in ones push at most without asking for more.
-        private static final int SLACK = 200;
+        // What a body, of 40 variables and exps nested 16 deep in lists of 10, and values that are given
+        // need at most above any top: so a strand that is brought back can go on in all its frames.
+        private static final int SLACK = 400;
 
         // A frame is a call that is not through: these are its fields.
         private static final int F_KIND = 0;
@@ -4253,7 +4247,8 @@ public final class StrandScript {
                 case B_WRAP: wrap(); break;
                 case B_STATUS: status(); break;
                 case B_RUNNING: running(); break;
-                default: cells(); break;
+                case B_COUNT: cells(); break;
+                default: calls.fail(S_NO_CALL); break;
             }
         }
 
