@@ -100,6 +100,46 @@ final class Bench {
         fetched();
     }
 
+    /**
+     * A text needs so many cells beyond the globals and its call, at its dearest place: in a heap
+     * with just those it runs to its end, in one of a cell less it is fault 6.
+     */
+    void needs(String text, int beyond) {
+        // Two strings of 1000 bytes and their global keys, so that no heap is below the least one.
+        String ballast = "z = rep('z', 1000) y = rep('y', 1000); ";
+        int cells = 108 + 2 * 130 + beyond;
+        heap(cells);
+        same("fault in " + cells + " cells of " + text, run(ballast + text, 20000), 0);
+        heap(cells - 1);
+        same("fault in one cell less of " + text, run(ballast + text, 20000), 6);
+        heap(2000);
+    }
+
+    /** A text ends with a fault, what is left of its fuel, and what it writes. */
+    void ends(String text, int fuel, int fault, int left, String written) {
+        same("fault with fuel " + fuel + " of " + text, run(text, fuel), fault);
+        same("fuel left of " + text, script.count(0), left);
+        same("output of " + text, fetched(), written);
+    }
+
+    /** A part so many times. */
+    static String times(String part, int n) {
+        StringBuilder all = new StringBuilder();
+        for (int i = 0; i < n; i++) {
+            all.append(part);
+        }
+        return all.toString();
+    }
+
+    /** So many parts with their numbers, from 1 on, in place of %, and this between them. */
+    static String numbered(String part, int n, String between) {
+        StringBuilder all = new StringBuilder();
+        for (int i = 1; i <= n; i++) {
+            all.append(i > 1 ? between : "").append(part.replace("%", "" + i));
+        }
+        return all.toString();
+    }
+
     void finish() {
         System.out.println(suite + ": " + (looked - wrong) + " of " + looked + " answers as due");
         if (wrong > 0) {

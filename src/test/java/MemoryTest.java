@@ -138,42 +138,30 @@ final class MemoryTest {
         cells("local s = create(function() local a = {} local f = function() return a end f = nil COUNT yield() end) resume(s) COUNT resume(s) COUNT", 10 + 8 + 2 + 4, 10 + 8 + 2 + 4, 10);
     }
 
-    /** The least heap in which this runs with this much at its dearest place is just that much. */
-    private static void justFits(String text, int beyond) {
-        // A string of 1000 bytes, its global key, and another in a table fill most of the least heap.
-        String ballast = "z = rep('z', 1000) y = rep('y', 1000); ";
-        int need = 108 + 2 * 130 + beyond;
-        BENCH.heap(need);
-        BENCH.same("in " + need + " cells: " + text, BENCH.run(ballast + text, 20000), 0);
-        BENCH.heap(need - 1);
-        BENCH.same("in one less: " + text, BENCH.run(ballast + text, 20000), 6);
-        BENCH.fetched();
-    }
-
     private static void limits() {
-        justFits("local t = {}", 4);
-        justFits("local t = {1}", 7);
-        justFits("x = 1", 3);
-        justFits("local f = function() end", 2);
-        justFits("local a, b local f = function() return a, b end", 8);
-        justFits("local a local f = function() return a end f = nil f = function() return a end", 5);
-        justFits("local s = 'a' .. 1 s = 'a' .. 1 s = 'a' .. 1", 3);
-        justFits("local s = 'a' .. 1 s = s .. 2", 6);
-        justFits("local s = create(print and function() end)", 12);
-        justFits("local w = wrap(function() end)", 15);
-        justFits("local s = create(function() end) resume(s)", 20);
-        justFits("(function() end)()", 10);
-        justFits("pcall(print)", 8);
-        justFits("pcall(function() end)", 18);
-        justFits("for i = 1, 50 do local t = {{i}, 'x' .. i} end", 4 + 3 + 4 + 3 + 3 + 3);
-        justFits("local t = {} t[{}] = 1 for k in pairs(t) do t[k] = nil end t.x = 1", 4 + 3 + 4);
-        justFits("local t = {1, 2} t[1], t[2] = nil t.x = 1 t.y = 2", 10);
-        justFits("local t = {} insert(t, 1) insert(t, 1, 2) remove(t)", 10);
-        justFits("local function f() end f({}, {}, {})", 2 + 12 + 8);
-        justFits("local function f(n) if n > 0 then f(n - 1) end end f(5)", 2 + 1 + 2 + 6 * 8);
-        justFits("local s = tostring(12345678) .. ''", 3);
-        justFits("x = setmetatable({}, {__index = setmetatable({}, {__index = function() end})}).x", 4 + 7 + 4 + 7 + 2 + 8);
-        justFits("local s = create(function() yield() end) resume(s) s = nil s = create(function() yield() end) resume(s)", 20);
+        BENCH.needs("local t = {}", 4);
+        BENCH.needs("local t = {1}", 7);
+        BENCH.needs("x = 1", 3);
+        BENCH.needs("local f = function() end", 2);
+        BENCH.needs("local a, b local f = function() return a, b end", 8);
+        BENCH.needs("local a local f = function() return a end f = nil f = function() return a end", 5);
+        BENCH.needs("local s = 'a' .. 1 s = 'a' .. 1 s = 'a' .. 1", 3);
+        BENCH.needs("local s = 'a' .. 1 s = s .. 2", 6);
+        BENCH.needs("local s = create(print and function() end)", 12);
+        BENCH.needs("local w = wrap(function() end)", 15);
+        BENCH.needs("local s = create(function() end) resume(s)", 20);
+        BENCH.needs("(function() end)()", 10);
+        BENCH.needs("pcall(print)", 8);
+        BENCH.needs("pcall(function() end)", 18);
+        BENCH.needs("for i = 1, 50 do local t = {{i}, 'x' .. i} end", 4 + 3 + 4 + 3 + 3 + 3);
+        BENCH.needs("local t = {} t[{}] = 1 for k in pairs(t) do t[k] = nil end t.x = 1", 4 + 3 + 4);
+        BENCH.needs("local t = {1, 2} t[1], t[2] = nil t.x = 1 t.y = 2", 10);
+        BENCH.needs("local t = {} insert(t, 1) insert(t, 1, 2) remove(t)", 10);
+        BENCH.needs("local function f() end f({}, {}, {})", 2 + 12 + 8);
+        BENCH.needs("local function f(n) if n > 0 then f(n - 1) end end f(5)", 2 + 1 + 2 + 6 * 8);
+        BENCH.needs("local s = tostring(12345678) .. ''", 3);
+        BENCH.needs("x = setmetatable({}, {__index = setmetatable({}, {__index = function() end})}).x", 4 + 7 + 4 + 7 + 2 + 8);
+        BENCH.needs("local s = create(function() yield() end) resume(s) s = nil s = create(function() yield() end) resume(s)", 20);
         BENCH.heap(300);
         BENCH.same("MEMORY ends the run", BENCH.run("pcall(function() local t = {} while true do t[#t + 1] = {} end end) print(1)", 20000), 6);
         BENCH.same("nothing more is done", BENCH.fetched(), "");

@@ -19,20 +19,11 @@ final class TextTest {
     }
 
     private static String times(String part, int n) {
-        StringBuilder all = new StringBuilder();
-        for (int i = 0; i < n; i++) {
-            all.append(part);
-        }
-        return all.toString();
+        return Bench.times(part, n);
     }
 
-    /** So many parts with their numbers, from 1 on, and this between them. */
     private static String numbered(String part, int n, String between) {
-        StringBuilder all = new StringBuilder();
-        for (int i = 1; i <= n; i++) {
-            all.append(i > 1 ? between : "").append(part.replace("%", "" + i));
-        }
-        return all.toString();
+        return Bench.numbered(part, n, between);
     }
 
     private static void blanksAndComments() {
