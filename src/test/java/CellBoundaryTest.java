@@ -229,6 +229,13 @@ final class CellBoundaryTest {
         cells(t + "local u = {} t.x, u.y = {}, {}", 4 + 4 + 3 + 2 + 8 + 4 + 4 + 3 + 4);
         cells(t + "local u = {} u.y, t.x = {}, {}", 4 + 4 + 3 + 2 + 8 + 4 + 4 + 4);
         cells(t + "function t.f() end", 4 + 4 + 3 + 2 + 8 + 2);
+        // Nothing is held behind a statement, nor what is given to it.
+        cells("local t = {} function t.f() end t = nil COUNT", 0);
+        cells("local t = {u = {}} function t.u.f() end function t:g() end t = nil COUNT", 0);
+        cells("function f() end f = nil COUNT local function g() end g = nil COUNT", 3, 3);
+        cells("local t = {} t[{}] = nil t.x = {} t = nil COUNT local u, v = {}, {} u, v = v COUNT u = nil COUNT", 0, 4, 0);
+        cells("(function() return {}, {} end)() COUNT local x = (function() return 1, {} end)() COUNT", 0, 0);
+        cells("local t = setmetatable({}, {__newindex = function() COUNT return {}, {} end}) t.x, t.y, t.z = 1", 21, 21, 21);
         // Variables go with their blocks, and with each round.
         cells("do local a = {} COUNT end COUNT", 4, 0);
         cells("for i = 1, 2 do local a = {} COUNT end COUNT", 4, 4, 0);
@@ -373,6 +380,10 @@ final class CellBoundaryTest {
         // Those that are kept already need not be made again.
         BENCH.needs("local a, b local f = function() return a end local g = function() return a, b end", 5 + 4 + 2);
         BENCH.needs("local a local f = function() return a end f = nil f = function() return a end", 5);
+        BENCH.needs("local a, b, c local f = function() return b end local g = function() return a, b, c end", 5 + 2 + 3 + 4);
+        BENCH.needs("local a, b, c local f = function() return c end local g = function() return a, c, b end", 5 + 2 + 3 + 4);
+        BENCH.needs("local a local f = function() return a end f = nil local t = {} f = function() return a end", 4 + 5);
+        BENCH.needs("local a, b local f = function() return a, b end f = nil local t = {} f = function() return b end", 4 + 5);
         BENCH.needs("local a for i = 1, 30 do local f = function() return a, i end end", 2 + 2 + 4);
         BENCH.needs("local a local f = function() return function() return a end end local g = f()", 5 + 8 + 3);
     }
@@ -410,6 +421,20 @@ final class CellBoundaryTest {
         // Those that are through make room.
         BENCH.needs("local function f() end for i = 1, 50 do f() pcall(f) end", 2 + 16);
         BENCH.needs("pcall(error) pcall(error) local t = {{}}", 11);
+        String table = " local t = {{}, {}, {}, {}}";
+        BENCH.needs("for i = 1, 30 do pcall(type) end" + table, 4 + 28);
+        BENCH.needs("for i = 1, 30 do pcall(error) end" + table, 4 + 28);
+        BENCH.needs("local f = function() end for i = 1, 30 do f() end" + table, 2 + 4 + 28);
+        BENCH.needs("local f = function() error() end for i = 1, 30 do pcall(f) end" + table, 2 + 4 + 28);
+        BENCH.needs("local m = setmetatable({}, {__tostring = type}) for i = 1, 30 do tostring(m) end" + table, 11 + 4 + 28);
+        BENCH.needs("local f = function() end for i = 1, 30 do resume(create(f)) end" + table, 2 + 4 + 28);
+        BENCH.needs("local f = function() error() end for i = 1, 30 do resume(create(f)) end" + table, 2 + 4 + 28);
+        BENCH.needs("local f = function() error() end for i = 1, 30 do pcall(wrap(f)) end" + table, 2 + 4 + 28);
+        BENCH.needs("local f = function() yield() end for i = 1, 30 do resume(create(f)) end" + table, 2 + 4 + 28);
+        BENCH.needs("local w = wrap(function() while true do yield() end end) for i = 1, 30 do w() end" + table, 23 + 4 + 28);
+        BENCH.needs("local t = {} for i = 1, 30 do t.x = i t.x = nil end" + table, 4 + 3 + 4 + 28);
+        BENCH.needs("local t = {} for i = 1, 30 do t[i] = i t[i] = nil end" + table, 4 + 3 + 4 + 28);
+        BENCH.needs("for i = 1, 30 do local s = 'k' .. i % 4 end" + table, 4 + 28);
     }
 
     private static void memoryAndOtherErrors() {

@@ -388,6 +388,7 @@ final class LibraryBoundaryTest {
         bad("remove, {1, 2}, " + MOST);
         bad("remove, {1, 2}, " + LEAST);
         bad("remove, {1, 2}, 4294967297");
+        BENCH.writes("local t = {} for i = 1, 200 do t[i] = i end print(pcall(remove, t, 'a')) print(pcall(remove, t, {})) print(pcall(insert, t, 'a', 1)) print(#t)", Bench.times("false bad value\n", 3) + "200\n");
         tries("remove, {1, 2}, 2", "true 2");
         tries("remove, {1, 2}, nil", "true 2");
         BENCH.writes(list + "local t = {1, nil, 3} print(remove(t), l(t)) print(remove(t), l(t))", "1 nil nil 3 nil nil \nnil nil nil 3 nil nil \n");

@@ -22,6 +22,7 @@ final class LimitBoundaryTest {
         extraValues();
         lowerNumbersFirst();
         leftmostFirst();
+        longTexts();
         BENCH.finish();
     }
 
@@ -430,5 +431,27 @@ final class LimitBoundaryTest {
         // Nothing is run, nothing is written.
         BENCH.refuses("print(1) print(2) x", 1, 19);
         BENCH.refuses("print(1) while true do end break", 2, 27);
+    }
+
+    /** Texts of 3000 bytes with as many of one thing as there can be. */
+    private static void longTexts() {
+        BENCH.writes(Bench.times(";", 3000), "");
+        BENCH.refuses(Bench.times(";", 2999) + "x", 1, 3000);
+        BENCH.refuses(Bench.times(";", 2999) + ")", 1, 2999);
+        BENCH.writes("x=" + Bench.times("1+", 1494) + "1 print(x)", "1495\n");
+        BENCH.heap(8000);
+        BENCH.writes("x={" + Bench.times("{},", 900) + "} print(#x)", "900\n");
+        BENCH.writes("x=0 " + Bench.times("x=x+1 ", 490) + "print(x)", "490\n");
+        BENCH.writes("local t={" + Bench.times("function()return 9 end,", 125) + "} local n=0 for i=1,#t do n=n+t[i]() end print(n,#t)", "1125 125\n");
+        BENCH.writes("local a,b,c,d,e,f,g,h,i,j=1,2,3,4,5,6,7,8,9,10 local t={" + Bench.times("function()return a+b+c+d+e+f+g+h+i+j end,", 65) + "} local n=0 for k=1,#t do n=n+t[k]() end print(n)", "3575\n");
+        BENCH.writes(Bench.numbered("n%=%", 330, " ") + " print(n1,n99,n330)", "1 99 330\n");
+        // Assignments of ten targets, each in a procedure that the one around it sets.
+        String targets = "a,b,c,d,e,f,g,h,i,j=1,2,3,4,5,6,7,8,9,";
+        BENCH.writes(Bench.times(targets + "function() ", 15) + targets + "10 " + Bench.times("end ", 15) + "for k=1,15 do j() end print(a,i,j)", "1 9 10\n");
+        BENCH.refuses(Bench.times("do ", 1000), 3, 48);
+        BENCH.refuses("x=" + Bench.times("(", 2998), 3, 18);
+        BENCH.refuses("f=" + Bench.times("function()", 299), 1, 20);
+        BENCH.writes("x=0 " + Bench.times("do x=x+1 end ", 220) + "print(x)", "220\n");
+        BENCH.writes("x=0 for i=1,2 do " + Bench.times("if i==1 then x=x+1 end ", 120) + "end print(x)", "120\n");
     }
 }

@@ -11,6 +11,8 @@ final class RunningBoundaryTest {
         fields();
         orderOfTargets();
         namesInScope();
+        loopsThatBreak();
+        plainExps();
         forsWithNumbers();
         forsThatWrap();
         forsIn();
@@ -82,6 +84,12 @@ final class RunningBoundaryTest {
         // A table's "__call" gets it beside the arguments.
         tries("local t = setmetatable({}, {__call = type}) return t(f(40))", "true table\n");
         tries("local t = setmetatable({}, {__call = type}) return t(1, f(40))", bad);
+        // Also of a call that is a statement, or whose values are not asked for.
+        tries("type(1, f(39)) return 1", "true 1\n");
+        tries("type(1, f(40)) return 1", bad);
+        tries("local t = {m = type} t:m(f(40)) return 1", "true 1\n");
+        tries("local t = {m = type} t:m(1, f(40)) return 1", bad);
+        tries("local a = (type(1, f(40))) return 1", bad);
         // The list is looked at ahead of the call, and so of its fuel and its error.
         tries("return nope(1, f(40))", bad);
         BENCH.ends("return nope(1, unpack({}, 1, 40))", 1, 5, 0, "! too many values\n");
@@ -125,6 +133,8 @@ final class RunningBoundaryTest {
     }
 
     private static void manyFields() {
+        BENCH.writes("local function f(...) return #{...}, #{..., 5}, #{5, ...}, #{n = 1, ...}, #{(...)}, #{..., n = 1} end print(f(1, 2, 3)) print(f()) print(f(7))", "3 2 4 3 1 1\n0 0 1 0 0 0\n1 2 2 1 1 1\n");
+        BENCH.writes("local function f(...) local t = {...,} local u = {...;} return #t, #u, t[3] end print(f(1, 2, 3))", "3 3 3\n");
         // Fields are put in as they come: they are no list.
         tries("local t = {f(40)} t[40] = 1 return #t", "true 0\n");
         tries("local t = {1, (f(40)), unpack({1, 2, 3})} return t[3], t[5]", "true 1 3\n");
@@ -178,9 +188,34 @@ final class RunningBoundaryTest {
         BENCH.writes("function f() return y end y = 1 local y = 2 print(f(), y) y = 3 print(f(), y)", "1 2\n1 3\n");
         BENCH.writes("local t = {} function t:m() self = 5 return self end print(t:m(), self)", "5 nil\n");
         BENCH.writes("local t = {} function t.m() return self end print(t:m())", "nil\n");
+        // Procedures in procedures keep those around both, in whatever order they name them.
+        BENCH.writes("local a, b, c, d = 1, 2, 3, 4 local f = function() return function() return c, d, a, b end end print(f()()) local g = function() local x = b return function() return function() return d, x, c, a end end end print(g()()())", "3 4 1 2\n4 2 3 1\n");
+        BENCH.writes("local a, b, c = 1, 2, 3 local function f() local d, e = 4, 5 return function() c, e = c + 1, e + 1 return e, d, c, b, a end end local g, h = f(), f() g() print(g()) print(h()) print(a, b, c)", "7 4 5 2 1\n6 4 6 2 1\n1 2 6\n");
         // Each round has variables of its own, which procedures keep.
         BENCH.writes("local t = {} for i = 1, 3 do t[i] = function(v) i = v or i return i end end t[1](7) print(t[1](), t[2](), t[3]())", "7 2 3\n");
         BENCH.writes("local t = {} local n = 0 repeat n = n + 1 local k = n t[n] = function() k = k + 10 return k end until k == 2 t[1]() print(t[1](), t[2]())", "21 12\n");
+    }
+
+    private static void loopsThatBreak() {
+        // A break leaves its own loop: those ahead of an inner one, in it, and behind it.
+        BENCH.writes("for i = 1, 3 do if i == 2 then break end while true do break end print(i) end print('out')", "1\nout\n");
+        BENCH.writes("for i = 1, 2 do for j = 1, 3 do if j == 2 then break end print(i, j) end if i == 2 then break end print('behind') end", "1 1\nbehind\n2 1\n");
+        BENCH.writes("local n = 0 while true do n = n + 1 if n > 3 then break end repeat if n == 2 then break end print(n) until true for k in pairs({1}) do if n == 3 then break end print('k') end end print(n)", "1\nk\nk\n3\n4\n");
+        BENCH.writes("repeat local x = 1 if x then break end repeat break until true until print('no')", "");
+        BENCH.writes("while true do while true do while true do break end break end break end print('all')", "all\n");
+        BENCH.writes("local f = function() for i = 1, 9 do if i == 3 then return i end end end print(f())", "3\n");
+    }
+
+    /** What is tested or counted with is a name or a member alone. */
+    private static void plainExps() {
+        BENCH.writes("local x, y = 0, {z = 0} repeat x = x + 1 local done = x == 3 until done print(x) repeat x = x - 1 y.z = x == 0 until y.z print(x)", "3\n0\n");
+        BENCH.writes("local x = 3 while x do x = x > 1 and x - 1 end print(x) local t = {x = 1} while t.x do t.x = nil end print(t.x)", "false\nnil\n");
+        BENCH.writes("local a, b, c = 1, 5, 2 for i = a, b, c do print(i) end local t = {a = 1, b = 2, c = 1} for i = t.a, t.b, t.c do print(i) end", "1\n3\n5\n1\n2\n");
+        BENCH.writes("local x, t = nil, {y = 1} if x then print(1) elseif t.x then print(2) elseif t.y then print(3) end if t then print(4) end", "3\n4\n");
+        BENCH.writes("local f, s, t = next, {5}, {} t.f, t.s = f, s for k in f, s do print(k) end for k, v in t.f, t.s do print(v) end", "1\n5\n");
+        BENCH.writes("local a, t = 1, {b = 2} local x, y, z = a, t.b, a print(x, y, z) x, y, z = t.b, a, t.b print(x, y, z) print({a, t.b} ~= a, ({t.b, a})[1], ({x = t.b}).x, ({[a] = t})[a] == t)", "1 2 1\n2 1 2\ntrue 2 2 true\n");
+        BENCH.writes("local a, t = 1, {b = 2} local function f() return a, t.b end print(f()) print(a, t.b, -a, -t.b, a + t.b, t.b .. a, not a, #t, a and t.b)", "1 2\n1 2 -1 -2 3 21 false 0 2\n");
+        BENCH.writes("repeat local x = ... until not x print((...)) for i = 1, ... or 2 do print(i) end", "nil\n1\n2\n");
     }
 
     private static void forsWithNumbers() {
@@ -250,6 +285,9 @@ final class RunningBoundaryTest {
         BENCH.writes(asked.replace("%s", "5").replace("%d", "10"), "false no table\n");
         BENCH.writes(asked.replace("%s", "5").replace("%d", "11"), "false too deep\n");
         BENCH.writes("local c = {} setmetatable(c, {__index = c}) print(pcall(function() return c.x end), pcall(function() return c[nil] end))", "false false too deep\n");
+        // What answers is called with both, the table that it answers for being the last one of the chain.
+        BENCH.writes("local u = setmetatable({}, {__index = function(...) return select('#', ...) end}) print(setmetatable({}, {__index = u}).x, u.x)", "2 2\n");
+        BENCH.writes("local u u = setmetatable({}, {__index = function(t, k) return t == u and k end}) print(setmetatable({}, {__index = setmetatable({}, {__index = u})}).x)", "x\n");
         String[] none = {"nil", "true", "1", "'a'", "print", "function() end", "create(function() end)", "wrap(function() end)"};
         for (String value : none) {
             BENCH.writes("local v = " + value + " print(pcall(function() return v.x end)) print(pcall(function() v.x = 1 end)) print(pcall(function() return v:x() end))", Bench.times("false no table\n", 3));
@@ -336,6 +374,8 @@ final class RunningBoundaryTest {
     private static void lengths() {
         BENCH.writes("print(#'', #'a', #rep('a', 1000), #'\\0\\0', #{}, #{1}, #{nil, 2}, #{[0] = 1}, #{[2] = 1})", "0 1 1000 2 0 1 0 0 0\n");
         BENCH.writes("local t = {1, 2, 3} t[2] = nil print(#t) t[1] = nil print(#t) t[1] = 1 print(#t) t[2] = 2 print(#t) t[5] = 5 print(#t) t[4] = 4 print(#t) t[5] = nil print(#t)", "1\n0\n1\n3\n3\n5\n4\n");
+        BENCH.writes("local t = {5} t[5] = 1 t[5] = nil print(#t) t[0] = 1 t[0] = nil print(#t) t[-3] = 1 t[-3] = nil print(#t) t.x = 1 t.x = nil print(#t) t[true] = 1 t[true] = nil print(#t)", Bench.times("1\n", 5));
+        BENCH.writes("local t = {} for i = 1, 200 do t[i] = i end t.x, t[0], t[999] = 1, 1, 1 print(#t) t.x, t[0], t[999] = nil print(#t) t[150] = nil print(#t) t[100] = nil print(#t) t[150] = 1 print(#t) t[100] = 1 print(#t)", "200\n200\n149\n99\n99\n200\n");
         BENCH.writes("local t = {} for i = 20, 1, -1 do t[i] = i if i < 3 then print(#t) end end", "0\n20\n");
         BENCH.writes("local t = {} for i = 1, 20 do t[i] = i end for i = 20, 1, -1 do t[i] = nil if #t ~= i - 1 then print(i) end end print(#t)", "0\n");
         BENCH.writes("for _, v in ipairs({1, true, print, create(function() end)}) do print(pcall(function() return #v end)) end print(pcall(function() return #nil end))", Bench.times("false no length\n", 5));
