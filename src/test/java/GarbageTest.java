@@ -20,6 +20,11 @@ final class GarbageTest {
             deepStrands();
             metaTables();
             handlesOfGlobals();
+            kindsByTurns();
+            manyStrings();
+            keysByTurns();
+            rowsOfDroppedTables();
+            framesOfStrands();
         }
         BENCH.finish();
     }
@@ -136,5 +141,40 @@ final class GarbageTest {
     private static void handlesOfGlobals() {
         inHeaps("for i = 1, 120 do x = {i} y = 'y' .. i f = function() return i end end print(x[1], y, f())", "120 y120 120\n", 300, 2000);
         inHeaps("local p, t = print, {} for k in pairs({'type', 'next'}) do t[k] = k end print, type = nil for i = 1, 50 do local u = {{i}} end z = 1 p(type, z, #t, select('#', 1, 2))", "nil 1 2 2\n", 300, 2000);
+    }
+
+    /** What went of one kind still waits to be used again when others of another kind go. */
+    private static void kindsByTurns() {
+        String look = " for j = 1, #k do local e = k[j] if e[1] ~= j or e[2] ~= 'k' .. j or e[3]() ~= j or e[4]() ~= j then print(r, j) end end";
+        inHeaps("local k = {} for r = 1, 6 do for i = 1, 40 do local t = {i} end for i = 1, 150 do local s = 'g' .. r .. i end for i = 1, 40 do local f = function() return i end end for i = 1, 120 do local s = r .. i .. 'h' end"
+                + " for i = 1, 20 do local w = wrap(function() yield(i) end) w() end for i = 1, 90 do local s = 'w' .. i end k[r] = {r, 'k' .. r, function() return r end, wrap(function() while true do yield(r) end end)}" + look + " end"
+                + " local l = {} for i = 1, 20 do l[i] = {i, 'l' .. i} end for i = 1, 20 do if l[i][1] ~= i or l[i][2] ~= 'l' .. i then print(i) end end print(#k, #l)", "6 20\n", 850, 900, 1200, 8000);
+        inHeaps("local k = {} for r = 1, 9 do for i = 1, 30 do local s = 'g' .. r .. i end for i = 1, 60 do local t = {{i}} end for i = 1, 4 do k[#k + 1] = 'k' .. r * 10 + i end for j = 1, #k do if k[j] ~= 'k' .. (j + 3) // 4 * 10 + (j - 1) % 4 + 1 then print(r, j) end end end print(#k)", "36\n", 400, 450, 2000);
+        inHeaps("local k = {} for r = 1, 9 do for i = 1, 25 do local a, b = i, r local f = function() return a, b end end for i = 1, 60 do local t = {{i}} end for i = 1, 2 do local x, y = r, i k[#k + 1] = function() x = x + y return x end end for j = 1, #k do local due = (j + 1) // 2 + ((j - 1) % 2 + 1) * (r - (j + 1) // 2 + 1) if k[j]() ~= due then print(r, j) end end end print(#k)", "18\n", 420, 450, 2000);
+    }
+
+    private static void manyStrings() {
+        inHeaps("local n = 0 for i = 1, 4000 do local s = 'k' .. i n = n + #s end print(n)", "18893\n", 300, 303, 2000);
+        inHeaps("local t = {} for i = 1, 2500 do t[i % 9] = 'k' .. i end for i = 0, 8 do print(t[i]) end", "k2493\nk2494\nk2495\nk2496\nk2497\nk2498\nk2499\nk2500\nk2492\n", 300, 2000);
+    }
+
+    private static void keysByTurns() {
+        // A third of the keys goes, others come in their places, and all are looked for.
+        inHeaps("local t, u = {}, {} for i = 1, 200 do t[i * 31] = i u[-i] = -i end for r = 1, 5 do for i = 1, 200 do if (i + r) % 3 == 0 then t[i * 31], u[-i] = nil end end for i = 1, 200 do if (i + r) % 3 == 0 then t[i * 31], u[-i] = i, -i end end"
+                + " for i = 1, 200 do if t[i * 31] ~= i or u[-i] ~= -i then print(r, i) end end end print('ok')", "ok\n", 1350, 2000, 8000);
+        inHeaps("local t = {} for r = 1, 5 do for i = 1, 200 do t[i * 64 + r] = i end for i = 1, 200 do if t[i * 64 + r] ~= i or t[i * 64 + r - 1] ~= nil then print(r, i) end end for i = 200, 1, -1 do t[i * 64 + r] = nil end end print(next(t))", "nil\n", 720, 2000);
+    }
+
+    private static void rowsOfDroppedTables() {
+        inHeaps("local k = {} for r = 1, 12 do local t = {} for i = 1, 12 do t[i] = i end for i = 1, 12 do t[i] = nil end t.x = 1 t = nil for i = 1, 40 do local s = 'g' .. i .. r end local u = {} for i = 1, 5 do u[i] = r * i end k[r % 4] = u for j = 0, 3 do local v = k[j] if v and (v[5] ~= v[1] * 5 or #v ~= 5) then print(r, j) end end end print(k[0][5], k[3][1])", "60 11\n", 300, 320, 2000);
+        inHeaps("for r = 1, 40 do local t = {} for i = 1, 20 do t[i] = {} if i > 10 then t[i - 10] = nil end end t.x = 1 if #t ~= 0 or t[20] == nil then print(r) end end print('ok')", "ok\n", 320, 2000);
+    }
+
+    private static void framesOfStrands() {
+        // A strand that stopped deep below goes on from where the one that resumes it is deep, too.
+        String down = "local function d(n) if n == 0 then return yield(1) end return d(n - 1) + 1 end ";
+        inHeaps(down + "local s = create(d) resume(s, 50) local function m(n) if n == 0 then return resume(s, 5) end return m(n - 1) end print(m(50))", "true 55\n", 1000, 8000);
+        inHeaps(down + "local t = {} for i = 1, 9 do t[i] = create(d) resume(t[i], 50) end local function m(n) if n == 0 then return 0 end local ok, v = resume(t[n], n) return v + m(n - 1) end print(m(9))", "495\n", 5000, 8000);
+        inHeaps("local function d(k, n) if n > 0 then return d(k, n - 1) end if k > 0 then local w = wrap(d) yield(w(k - 1, 30)) return w() end yield(1) return 'end' end local s = create(function() return d(7, 40) end) print(resume(s)) print(status(s)) print(resume(s)) print(status(s))", "true 1\nsuspended\ntrue end\ndead\n", 3000, 8000);
     }
 }
