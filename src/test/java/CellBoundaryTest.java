@@ -384,6 +384,8 @@ final class CellBoundaryTest {
         BENCH.needs("local a, b, c local f = function() return c end local g = function() return a, c, b end", 5 + 2 + 3 + 4);
         BENCH.needs("local a local f = function() return a end f = nil local t = {} f = function() return a end", 4 + 5);
         BENCH.needs("local a, b local f = function() return a, b end f = nil local t = {} f = function() return b end", 4 + 5);
+        BENCH.needs("local a, b local f = function() return a end f = nil f = function() return a, b end", 2 + 2 + 4);
+        BENCH.needs("local a, b, c local f = function() return b, c end f = nil f = function() return a, b, c end", 2 + 3 + 6);
         BENCH.needs("local a for i = 1, 30 do local f = function() return a, i end end", 2 + 2 + 4);
         BENCH.needs("local a local f = function() return function() return a end end local g = f()", 5 + 8 + 3);
     }
@@ -431,6 +433,10 @@ final class CellBoundaryTest {
         BENCH.needs("local f = function() error() end for i = 1, 30 do resume(create(f)) end" + table, 2 + 4 + 28);
         BENCH.needs("local f = function() error() end for i = 1, 30 do pcall(wrap(f)) end" + table, 2 + 4 + 28);
         BENCH.needs("local f = function() yield() end for i = 1, 30 do resume(create(f)) end" + table, 2 + 4 + 28);
+        String strands = " local t = {} for i = 1, 5 do t[i] = create(f) resume(t[i]) end local u = {{}, {}, {}, {}}";
+        BENCH.needs("local f = function() error() end" + strands, 2 + 4 + 5 * 13 + 4 + 28);
+        BENCH.needs("local f = function() end" + strands, 2 + 4 + 5 * 13 + 4 + 28);
+        BENCH.needs("local f = function() yield() end" + strands, 2 + 4 + 5 * 21 + 4 + 28);
         BENCH.needs("local w = wrap(function() while true do yield() end end) for i = 1, 30 do w() end" + table, 23 + 4 + 28);
         BENCH.needs("local t = {} for i = 1, 30 do t.x = i t.x = nil end" + table, 4 + 3 + 4 + 28);
         BENCH.needs("local t = {} for i = 1, 30 do t[i] = i t[i] = nil end" + table, 4 + 3 + 4 + 28);

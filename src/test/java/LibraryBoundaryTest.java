@@ -62,6 +62,9 @@ final class LibraryBoundaryTest {
         for (String name : wrong) {
             bad(name);
         }
+        // Nothing of an earlier call's arguments is there.
+        BENCH.writes("tostring(5) local x = tostring() print(x) type({}) x = type() print(x) tonumber('7') x = tonumber() print(x)", "nil\nnil\nnil\n");
+        BENCH.fails("local s = create(function() print('on') yield() print('no') end) resume(s) resume()", "on\n! bad value\n");
         tries("error", "false nil");
         tries("assert", "false assertion failed");
         tries("pcall", "true false no call");

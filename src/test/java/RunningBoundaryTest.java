@@ -87,6 +87,8 @@ final class RunningBoundaryTest {
         // Also of a call that is a statement, or whose values are not asked for.
         tries("type(1, f(39)) return 1", "true 1\n");
         tries("type(1, f(40)) return 1", bad);
+        tries("type(1, f(40)) x = 5 return x", bad);
+        tries("local t = {m = type} t:m(1, f(40)) x = 5 return x", bad);
         tries("local t = {m = type} t:m(f(40)) return 1", "true 1\n");
         tries("local t = {m = type} t:m(1, f(40)) return 1", bad);
         tries("local a = (type(1, f(40))) return 1", bad);
@@ -398,6 +400,7 @@ final class RunningBoundaryTest {
             BENCH.writes("local t = setmetatable({}, {" + name + " = function() end}) print(t " + sign + " 1)", "nil\n");
         }
         BENCH.writes("local t = setmetatable({}, {__unm = function(...) return select('#', ...) end, __len = function(a, b) return a == b end}) print(-t, #t)", "2 true\n");
+        BENCH.writes("local t = setmetatable({}, {__unm = function(a, b) return rawequal(a, b) end, __len = function(...) return select('#', ...) end}) print(-t, #t)", "true 2\n");
         BENCH.writes("print(pcall(function() return -{} end)) print(pcall(function() return -'1' end)) print(#setmetatable({7}, {__unm = print}))", "false no number\nfalse no number\n1\n");
         // a > b is b < a: the left operand is b then.
         String t = "local function m(n) return setmetatable({}, {__lt = function(a, b) return print(n, type(a), type(b)) end, __le = function(a, b) print(n, type(a), type(b)) return 0 end}) end local l, r = m('l'), m('r') ";
