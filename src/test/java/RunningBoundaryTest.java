@@ -401,6 +401,7 @@ final class RunningBoundaryTest {
         }
         BENCH.writes("local t = setmetatable({}, {__unm = function(...) return select('#', ...) end, __len = function(a, b) return a == b end}) print(-t, #t)", "2 true\n");
         BENCH.writes("local t = setmetatable({}, {__unm = function(a, b) return rawequal(a, b) end, __len = function(...) return select('#', ...) end}) print(-t, #t)", "true 2\n");
+        BENCH.writes("local t = setmetatable({}, {__unm = rawequal, __len = rawequal}) local a, b, c = 'x', 'y', {1, 2, 'z', {}} print(a, b, -t, #t) local function f(...) return 1, -t, 2, #t end print(f({}, {}, {}))", "x y true true\n1 true 2 true\n");
         BENCH.writes("print(pcall(function() return -{} end)) print(pcall(function() return -'1' end)) print(#setmetatable({7}, {__unm = print}))", "false no number\nfalse no number\n1\n");
         // a > b is b < a: the left operand is b then.
         String t = "local function m(n) return setmetatable({}, {__lt = function(a, b) return print(n, type(a), type(b)) end, __le = function(a, b) print(n, type(a), type(b)) return 0 end}) end local l, r = m('l'), m('r') ";
