@@ -15,6 +15,7 @@ final class GarbageTest {
             manyProcedures();
             variablesOfScopes();
             variablesOfStrands();
+            variablesOfStrandsInTurn();
             strandsInAnyOrder();
             strandsThatAreDropped();
             deepStrands();
@@ -91,6 +92,22 @@ final class GarbageTest {
         inHeaps("local s = create(function() local a, b = 5, {6} g = function() return a, b end yield() return a, b[1] end) resume(s) g = nil for i = 1, 200 do local t = {i, function() return i end} end print(resume(s))", "true 5 6\n", 300, 310, 2000);
         inHeaps("local s = create(function() local a = 5 g = function() a = a + 1 return a end yield() a = a + 10 yield() return a end) resume(s) g() resume(s) g() g = nil for i = 1, 200 do local t = {i, {}} end print(resume(s))", "true 17\n", 300, 2000);
         inHeaps("local t = {} for k = 1, 4 do t[k] = wrap(function() local a = {k} h = function() return a end yield() return a[1] end) t[k]() end h = nil for i = 1, 300 do local u = {{i}} end print(t[4](), t[2](), t[1](), t[3]())", "4 2 1 3\n", 330, 2000);
+    }
+
+    /** Strands stop in one order and go on in others: what none keeps goes back into the scopes of all of them. */
+    private static void variablesOfStrandsInTurn() {
+        String make = "local t, h = {}, {} for k = 1, 5 do t[k] = wrap(function() local a, b = {k}, k h[k] = function() return a, b end while true do yield(a[1], b) b = b + 10 end end) t[k]() end ";
+        for (String again : new String[] {"1", "1, 2", "3", "5", "5, 1", "1, 3, 1", "2, 1, 4, 1"}) {
+            int[] due = {1, 2, 3, 4, 5};
+            for (String k : again.split(", ")) {
+                due[Integer.parseInt(k) - 1] += 10;
+            }
+            StringBuilder want = new StringBuilder();
+            for (int k = 1; k <= 5; k++) {
+                want.append(k).append(' ').append(due[k - 1] + 10).append('\n');
+            }
+            inHeaps(make + "for _, k in ipairs({" + again + "}) do t[k]() end h = nil for i = 1, 300 do local u = {{i}, function() return i end} end for k = 1, 5 do print(t[k]()) end", want.toString(), 450, 520, 2000);
+        }
     }
 
     private static void strandsInAnyOrder() {
